@@ -68,7 +68,8 @@ public final class GoneIntoItsTunnel {
     }
 
     public int hem() {
-        int answer = hemOfLetters();
+        int fault = letters.firstUnfit();
+        int answer = fault == NONE ? statementsCome() : -1000 - fault;
         letters.clear();
         return answer;
     }
@@ -513,92 +514,61 @@ public final class GoneIntoItsTunnel {
         return at >= 1 && at < refusals.length ? refusals[at] : NONE;
     }
 
-    private int hemOfLetters() {
-        int place = letters.firstUnfit();
-        if (place != NONE) {
-            return -1000 - place;
-        }
+    private int statementsCome() {
         // In mind first: a FAULT further on must leave all as it was.
         mind.copyFrom(now);
         int statements = 0;
         int at = 0;
         while (at < letters.size) {
-            if (!comes(at)) {
+            if (!isAsItMustBe(at)) {
                 return -2000 - at;
             }
+            comes(at);
             statements++;
-            at += letters.lengthOfStatement(at);
+            at += 1 + letters.lengthBehind(at);
         }
         now.copyFrom(mind);
         return statements;
     }
 
-    private boolean comes(int at) {
+    private boolean isAsItMustBe(int at) {
         switch (letters.signAt(at)) {
-            case 'n': return inchesCome(letters.number(at + 1));
-            case 'i': return inchComes(at);
-            case 'e': return endComes(at);
-            case 'k': return knotComes(letters.digit(at + 1));
+            case 'n': return outside(letters.number(at + 1), LEAST_INCHES, MOST_INCHES) == FINE;
+            case 'i': return mind.hasInch(letters.number(at + 2));
+            case 'e': return isEnd(letters.digit(at + 1))
+                    && outside(letters.signed(at + 2), FARTHEST_OUT, DEEPEST) == FINE;
+            case 'k': return isEnd(letters.digit(at + 1));
+            case 'p': return letters.digit(at + 1) >= 1;
+            case 'w': return outside(letters.number(at + 1), 1, MOST_WASHES) == FINE;
+            default: return true;
+        }
+    }
+
+    private void comes(int at) {
+        int digit = letters.digit(at + 1);
+        switch (letters.signAt(at)) {
+            case 'n':
+                mind.length = letters.number(at + 1);
+                break;
+            case 'i':
+                mind.make(letters.number(at + 2), Kind.ofSign(letters.signAt(at + 1)), letters.digit(at + 4));
+                break;
+            case 'e':
+                mind.place(digit, letters.signed(at + 2));
+                break;
+            case 'k':
+                mind.knot(digit, !mind.isKnotted(digit));
+                break;
             case 's':
                 mind.sewn = !mind.sewn;
-                return true;
-            case 'p': return pinComes(letters.digit(at + 1), letters.digit(at + 2));
-            case 'w': return washesCome(letters.number(at + 1));
-            default: return false;
+                break;
+            case 'p':
+                mind.pin = digit;
+                mind.strength = letters.digit(at + 2);
+                break;
+            default:
+                mind.washTimes(letters.number(at + 1));
         }
-    }
-
-    private boolean inchesCome(int n) {
-        if (outside(n, LEAST_INCHES, MOST_INCHES) != FINE) {
-            return false;
-        }
-        mind.length = n;
-        return true;
-    }
-
-    private boolean inchComes(int at) {
-        int inch = letters.number(at + 2);
-        if (!mind.hasInch(inch)) {
-            return false;
-        }
-        mind.make(inch, Kind.ofSign(letters.signAt(at + 1)), letters.digit(at + 4));
-        return true;
-    }
-
-    private boolean endComes(int at) {
-        int end = letters.digit(at + 1);
-        int number = letters.number(at + 3);
-        int depth = letters.signAt(at + 2) == '-' ? -number : number;
-        if (!isEnd(end) || outside(depth, FARTHEST_OUT, DEEPEST) != FINE) {
-            return false;
-        }
-        mind.place(end, depth);
-        return true;
-    }
-
-    private boolean knotComes(int end) {
-        if (!isEnd(end)) {
-            return false;
-        }
-        mind.knot(end, !mind.isKnotted(end));
-        return true;
-    }
-
-    private boolean pinComes(int pin, int strength) {
-        if (pin < 1) {
-            return false;
-        }
-        mind.pin = pin;
-        mind.strength = strength;
-        return true;
-    }
-
-    private boolean washesCome(int n) {
-        if (outside(n, 1, MOST_WASHES) != FINE) {
-            return false;
-        }
-        mind.washTimes(n);
-        return true;
     }
 
     /** NONE for one that is not LOST too: it is not to be BUNCHED, so it can not be the soonest. */
@@ -703,32 +673,41 @@ public final class GoneIntoItsTunnel {
 
         static int bunchMove(int kind) {
             switch (kind) {
-                case ELASTIC: return 3;
+                case SEAM:
+                case BEADED: return 1;
                 case LINING: return 0;
-                default: return isSeam(kind) ? 1 : 2;
+                case ELASTIC: return 3;
+                default: return 2;
             }
         }
 
         static int bunchSeconds(int kind, int figure) {
-            if (kind == VELVET) {
-                return 3 + figure;
+            switch (kind) {
+                case SEAM:
+                case LINING:
+                case BEADED: return 5;
+                case VELVET: return 3 + figure;
+                default: return 3;
             }
-            return isSeam(kind) ? 5 : 3;
         }
 
         static int threadSeconds(int kind, int figure) {
             switch (kind) {
+                case SEAM:
+                case BEADED: return 9;
                 case LINING: return 9 + figure;
                 case VELVET: return 6;
-                default: return isSeam(kind) ? 9 : 4;
+                default: return 4;
             }
         }
 
         static int washDraw(int kind, int strength) {
             switch (kind) {
-                case ELASTIC: return strength + 1;
+                case SEAM:
+                case LINING: return strength / 2;
                 case BEADED: return 0;
-                default: return isSeam(kind) ? strength / 2 : strength;
+                case ELASTIC: return strength + 1;
+                default: return strength;
             }
         }
     }
@@ -861,10 +840,11 @@ public final class GoneIntoItsTunnel {
             if (sewn) {
                 return 0;
             }
-            int other = 1 - end;
-            int deepest = isKnotted(other) ? 0 : DEEPEST;
-            int far = Math.min(depth(end) - FARTHEST_OUT, deepest - depth(other));
-            // A KNOT may have been tied at an END that is deeper than 0: below 0 is no way back.
+            int own = end == 0 ? firstIn : secondIn;
+            int others = end == 0 ? secondIn : firstIn;
+            boolean othersKnot = end == 0 ? secondKnot : firstKnot;
+            int far = Math.min(own - FARTHEST_OUT, (othersKnot ? 0 : DEEPEST) - others);
+            // A KNOT may be at an END that is deeper than 0 already: it holds, and brings nothing back.
             return Math.max(0, Math.min(n, far));
         }
 
@@ -1031,8 +1011,12 @@ public final class GoneIntoItsTunnel {
             return 10 * digit(place) + digit(place + 1);
         }
 
-        int lengthOfStatement(int place) {
-            return 1 + formBehind(signAt(place)).length();
+        int signed(int place) {
+            return signAt(place) == '-' ? -number(place + 1) : number(place + 1);
+        }
+
+        int lengthBehind(int place) {
+            return formBehind(signAt(place)).length();
         }
 
         /** The place of a FAULT of kind 1; NONE without one. */

@@ -4,6 +4,7 @@ public final class AnswersTest {
         of();
         out();
         outDearestInch();
+        outAgain();
         soonest();
         better();
         inIn();
@@ -20,6 +21,7 @@ public final class AnswersTest {
         cutOff();
         bestPin();
         worst();
+        mindIsAlwaysNew();
         nothingChanges();
         Due.close();
     }
@@ -89,6 +91,21 @@ public final class AnswersTest {
         outIs("iv029;ib040;e0+10;", 0, 6, 31, 2);
         outIs("iv027;ib040;e0+10;", 0, 6, 29, 2);
         outIs("iv026;ib040;e0+10;", 0, 6, 28, 4);
+    }
+
+    private static void outAgain() {
+        GoneIntoItsTunnel x = Due.told("is010;e0+04;e1+12;");
+        for (int round = 0; round < 3; round++) {
+            Due.is("out(0, 0)", x.out(0, 0), 3);
+            Due.is("out(1, 0)", x.out(1, 0), 7);
+            Due.is("out(0, 1)", x.out(0, 1), 13);
+            Due.is("out(1, 1)", x.out(1, 1), 25);
+            Due.is("out(0, 2)", x.out(0, 2), 1);
+            Due.is("out(1, 2)", x.out(1, 2), 1);
+        }
+        x.end(0, 0);
+        Due.is("out(0, 0)", x.out(0, 0), 0);
+        Due.is("out(0, 2)", x.out(0, 2), -9);
     }
 
     private static void soonest() {
@@ -200,6 +217,7 @@ public final class AnswersTest {
 
     private static void deep() {
         GoneIntoItsTunnel x = Due.told("is000;");
+        Due.is("deep(0, 0)", x.deep(0, 0), -9);
         Due.is("deep(0, 4)", x.deep(0, 4), -9);
         Due.is("deep(0, 5)", x.deep(0, 5), 1);
         Due.is("deep(0, 7)", x.deep(0, 7), 1);
@@ -243,6 +261,10 @@ public final class AnswersTest {
         // One that is LOST already is mended behind the first WASH, not ahead of it.
         stopsIs("e0+04;", 0, 0, 0);
         stopsIs("e1-07;", 200, 2, 20);
+        // Of several the least: 10 SECONDS for each WASH, or 20 for a KNOT.
+        stopsIs("iv007;p31;e0+00;", 1, 0, 10);
+        stopsIs("iv007;p31;e0+00;", 2, 0, 20);
+        stopsIs("iv007;p31;e0+00;", 3, 1, 20);
         GoneIntoItsTunnel x = new GoneIntoItsTunnel();
         Due.is("stops(-1, 9)", x.stops(-1, 9), -4);
         Due.is("stops(201, 9)", x.stops(201, 9), -6);
@@ -273,9 +295,10 @@ public final class AnswersTest {
         // A LINING: never out, so ANEW, 4 + 9 + 7.
         stopsIs("n02;il000;e0+01;e1-08;p30;", 1, 0, 20);
         stopsIs("n02;iv009;iv019;p39;", 200, 1, 20);
-        // The other END is LOST too, both go in by turns: a KNOT each is dearer than the STITCH is not.
-        GoneIntoItsTunnel x = Due.told("n02;ie000;ie010;p39;e0+00;e1-01;");
-        Due.is("stops(200, 0)", x.stops(200, 0), 1);
+        // END 1 is in a LINING. With its own KNOT alone all is THREADED ANEW, and END 0 is drawn in from then on;
+        // with END 0's alone a WASH takes it on into the ELASTIC, it is BUNCHED out, and drawn in from then on.
+        stopsIs("n03;ie000;il010;iv029;p92;e1+04;", 1, 0, 15);
+        stopsIs("n03;ie000;il010;iv029;p92;e1+04;", 200, 3, 60);
     }
 
     private static void careIs(String text, int n, int times) {
@@ -289,6 +312,13 @@ public final class AnswersTest {
         careIs("p33;", 11, 9);
         careIs("p33;", 200, 9);
         careIs("k0;", 200, 0);
+        careIs("p31;", 200, 24);
+        careIs("p31;", 9, 1);
+        // Alike: it is BUNCHED out, not THREADED ANEW, and so is drawn in by the next WASH again.
+        careIs("n02;iv007;p31;e0+00;", 5, 5);
+        // A WASH that draws nothing is not the last, if one has to mend behind it.
+        careIs("ib010;e0+03;", 1, 1);
+        careIs("ib010;e0+03;", 3, 3);
         careIs("s;e0+02;", 200, 1);
         careIs("s;e1+02;", 200, 1);
         careIs("s;e0+02;e1+02;", 200, 2);
@@ -382,6 +412,33 @@ public final class AnswersTest {
         Due.is("lining", Due.told("is020;il031;il051;").worst(), 3);
         Due.is("lining 9", Due.told("is020;il031;il059;").worst(), 5);
         Due.is("beyond the last", Due.told("il059;n05;").worst(), 0);
+    }
+
+    /** Other questions ahead of it must not change an answer. */
+    private static void mindIsAlwaysNew() {
+        GoneIntoItsTunnel x = new GoneIntoItsTunnel();
+        Due.is("inIn(0, 200)", x.inIn(0, 200), 24);
+        Due.is("still()", x.still(), 11);
+        Due.is("still()", x.still(), 11);
+        Due.is("lost(0)", x.lost(0), 3);
+        Due.is("lost(1)", x.lost(1), 0);
+        Due.is("keep(30)", x.keep(30), 10);
+        Due.is("keep(30)", x.keep(30), 10);
+        Due.is("care(40)", x.care(40), 9);
+        Due.is("care(40)", x.care(40), 9);
+        Due.is("stops(5, 1)", x.stops(5, 1), 15);
+        Due.is("stops(5, 1)", x.stops(5, 1), 15);
+        Due.is("inIn(0, 2)", x.inIn(0, 2), -2);
+        Due.is("lots(5, 7, 1)", x.lots(5, 7, 1), 144);
+        Due.is("lots(5, 7, 1)", x.lots(5, 7, 1), 144);
+        Due.row(x, 42, 45);
+        Due.is("which(0, 0)", x.which(0, 0), 17);
+        Due.is("which(0, 1)", x.which(0, 1), 8);
+        Due.is("judge(0)", x.judge(0), -9);
+        Due.is("holdsUp(0)", x.holdsUp(0), -9);
+        Due.is("hem()", Due.tell(x, "e1-09;"), 1);
+        Due.is("IN of END 0", Due.in(x, 0), -8);
+        Due.is("IN of END 1", Due.in(x, 1), -9);
     }
 
     private static void nothingChanges() {

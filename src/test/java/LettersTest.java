@@ -80,6 +80,8 @@ public final class LettersTest {
         Due.is("hem()", Due.tell(x, "n02;n12;is119;"), 3);
         Due.is("inch(2, 0)", x.inch(2, 0), 4);
         Due.is("inch(11, 1)", x.inch(11, 1), 9);
+        Due.is("hem()", Due.tell(x, "n10;n12;"), 2);
+        Due.is("inch(11, 0)", x.inch(11, 0), 1);
     }
 
     private static void hemKnotsAndStitchToldAgain() {
@@ -96,29 +98,36 @@ public final class LettersTest {
     }
 
     private static void faultsOfKindOne() {
-        GoneIntoItsTunnel x = new GoneIntoItsTunnel();
-        Due.is("hem()", x.hem(), -1000);
+        Due.is("hem()", new GoneIntoItsTunnel().hem(), -1000);
         for (int place = 0; place < ALL_STATEMENTS.length(); place++) {
             String head = ALL_STATEMENTS.substring(0, place);
             String tail = ALL_STATEMENTS.substring(place + 1);
-            Due.is("wrong at " + place, Due.tell(x, head + "!" + tail), -1000 - place);
-            boolean whole = head.endsWith(";");
-            int due = whole ? statements(head) : -1000 - place;
-            Due.is("cut at " + place, Due.tell(new GoneIntoItsTunnel(), head), due);
+            isUnfit(head + "!" + tail, place);
+            if (place > 0 && head.endsWith(";")) {
+                Due.is("cut at " + place, Due.tell(new GoneIntoItsTunnel(), head), statements(head));
+            } else {
+                isUnfit(head, place);
+            }
         }
         String[] texts = {";", "s;;", "n6;", "n006;", "ic0000;", "ii000;", "iC000;", "e00+0;", "e0 05;", "k;", "kk;",
             "k00;", "s0;", "p1;", "p111;", "w1;", "n0:;", "n/0;", "N06;", "e0+0/;", "w0:;"};
         int[] places = {0, 2, 2, 3, 5, 1, 1, 2, 2, 1, 1, 2, 1, 2, 3, 2, 2, 1, 0, 4, 2};
         for (int i = 0; i < texts.length; i++) {
-            Due.is("hem() of " + texts[i], Due.tell(x, texts[i]), -1000 - places[i]);
+            isUnfit(texts[i], places[i]);
         }
         // Kind 1 comes first, even where kind 2 stands ahead of it in the text.
-        Due.is("n13;x", Due.tell(x, "n13;x"), -1004);
-        Due.is("k9;k", Due.tell(x, "k9;k"), -1004);
-        Due.same("after faults", Due.state(x), NEW_STATE);
-        Due.same("refusals", Due.refusals(x), "0 0 0 0 0 0");
-        // 95 letters that are right, and one with which a statement begins.
-        Due.is("96 letters", Due.tell(x, "s;".repeat(46) + "k0;" + "s"), -1096);
+        isUnfit("n13;x", 4);
+        isUnfit("k9;k", 4);
+        // 95 letters that are right, and one with which a STATEMENT begins: what lacks, lacks at the end.
+        isUnfit("s;".repeat(46) + "k0;" + "s", 96);
+    }
+
+    private static void isUnfit(String text, int place) {
+        GoneIntoItsTunnel x = new GoneIntoItsTunnel();
+        Due.is("hem() of " + text, Due.tell(x, text), -1000 - place);
+        Due.is("count(8) behind " + text, x.count(8), 0);
+        Due.same("all behind " + text, Due.state(x), NEW_STATE);
+        Due.same("refusals behind " + text, Due.refusals(x), "0 0 0 0 0 0");
     }
 
     private static int statements(String text) {
@@ -126,7 +135,7 @@ public final class LettersTest {
         for (int i = 0; i < text.length(); i++) {
             statements += text.charAt(i) == ';' ? 1 : 0;
         }
-        return statements == 0 ? -1000 : statements;
+        return statements;
     }
 
     private static void faultsOfKindTwo() {

@@ -215,6 +215,9 @@ public final class RowAndImageTest {
         }
         x.inches(8);
         Due.is("seams beyond the last", x.count(6), 2);
+        x.turn(0, 1, 0);
+        Due.is("a seam at the first", x.count(6), 3);
+        x.turn(0, 0, 0);
         int[] others = {-1, 9, 10, 17, 18, 100, Integer.MIN_VALUE, Integer.MAX_VALUE};
         for (int what : others) {
             Due.is("count(" + what + ")", x.count(what), -9);
