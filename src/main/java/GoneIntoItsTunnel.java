@@ -32,6 +32,7 @@ public final class GoneIntoItsTunnel {
     private static final int MOST_LOTS = 20;
     private static final int LOT_WASHES = 10;
     private static final int LOT_NEVER = 100;
+    private static final int ALL_BUT_THE_SIGN = 0x7fffffff;
 
     private final Hem now;
     private final Hem mind;
@@ -449,7 +450,7 @@ public final class GoneIntoItsTunnel {
         for (int lot = 0; lot < n; lot++) {
             seed = seed * 1664525 + 1013904223;
             mind.copyFrom(now);
-            mind.strength = (seed & Integer.MAX_VALUE) / 256 % (DIGIT + 1);
+            mind.strength = (seed & ALL_BUT_THE_SIGN) / 256 % (DIGIT + 1);
             mind.washTimes(LOT_WASHES);
             hems += mind.lostEnds() > 0 ? 1 : 0;
             seconds += lotSeconds(0) + lotSeconds(1);

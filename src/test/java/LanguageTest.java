@@ -103,7 +103,7 @@ public final class LanguageTest {
         String code = code();
         String[] no = {"throw", "throws", "try", "catch", "finally", "synchronized", "assert", "import", "package",
             "native", "volatile", "transient", "Object", "Class", "Thread", "Random", "hashCode", "toString",
-            "equals", "var", "yield", "double", "float", "protected", "goto"};
+            "equals", "Integer", "Long", "var", "yield", "double", "float", "protected", "goto"};
         for (String word : no) {
             Matcher matcher = Pattern.compile("\\b" + word + "\\b").matcher(code);
             Due.is("the word " + word, matcher.find() ? 1 : 0, 0);
