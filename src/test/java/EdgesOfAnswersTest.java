@@ -72,6 +72,12 @@ public final class EdgesOfAnswersTest {
             outIs("e" + end + "+24;", end, 12, 36, 5 - 5 * end);
             outIs("n12;e" + end + "+24;", end, 12, 36, 11 * end);
         }
+        // Nothing is left of what was asked of the other END.
+        GoneIntoItsTunnel x = Due.told("e0+05;e1+00;");
+        for (int what = 0; what <= 2; what++) {
+            Due.is("out(0, " + what + ")", x.out(0, what), what == 0 ? 3 : what == 1 ? 9 : 0);
+            Due.is("out(1, " + what + ")", x.out(1, what), what == 2 ? -9 : 0);
+        }
         // The most: half inch by half inch through SEAMS.
         outIs("n02;is000;is010;e0+24;", 0, 24, 120, 1);
         outIs("n02;is000;ib010;e1+24;", 1, 24, 120, 0);

@@ -187,6 +187,16 @@ public final class EdgesOfRowTest {
         judgeIs(1, "p33;", 1, due);
         judgeIs(-9, "p33;", 0, 42);
         judgeIs(-9, "s;", 1, 42, 42, 42);
+        // From what there is each time: not from what it was when a HEM was told, nor from the last WASH in mind.
+        GoneIntoItsTunnel x = Due.told("e0-09;");
+        x.end(0, -8);
+        for (int times = 0; times < 3; times++) {
+            Due.row(x, 42, 45, 48);
+            Due.is("judge(0)", x.judge(0), -9);
+        }
+        x.end(0, 5);
+        Due.row(x, 55, 58);
+        Due.is("judge(0)", x.judge(0), -9);
     }
 
     private static void judgeRefuses() {
